@@ -16,6 +16,8 @@ public final class PromisesTest {
         promise2Unit();
         promise3Read();
         promise3ReadLimits();
+        promise3ReadEachSign();
+        deepestText();
         promise4Terms();
         promise5Written();
         promise6Input();
@@ -111,6 +113,38 @@ public final class PromisesTest {
         refuse("there are eight contracts, and the text is wrong", STATE, x, LoanTerms::read);
         due("the pad stays again", x.count(0), 4);
         due("eight contracts", x.count(1), 8);
+    }
+
+    /** Behind each start, which of all signs a terms text could have next. */
+    private static void promise3ReadEachSign() {
+        String bit = "!(abcdefghyz";
+        String digits = "0123456789";
+        String[][] starts = {{"", bit}, {"a", "<=>"}, {"z>", digits}, {"a<1", digits + "&|;"}, {"a<12345", digits + "&|;"},
+            {"a<123456", "&|;"}, {"(a<1", digits + "&|)"}, {"(a<123456", "&|)"}, {"(a<1)", "&|;"}, {"((a<1)", "&|)"},
+            {"a<1&", bit}, {"a<1|", bit}, {"a<1;", bit}, {"(", bit}, {"!", bit}, {"!!!", bit.substring(1)}, {"!!!(", bit},
+            {"(((((", "!abcdefghyz"}, {"a<1;a<1;a<1;a<1;a<1;a<123456", "&|"}};
+        for (String[] start : starts) {
+            for (char sign = 33; sign <= 126; sign++) {
+                int answer = read(new LoanTerms(), start[0] + sign + "~");
+                int place = start[0].length() + (start[1].indexOf(sign) >= 0 ? 1 : 0);
+                due("read of " + start[0] + sign + "~", answer, -1 - place);
+            }
+        }
+    }
+
+    /** 31 levels, one within the other, on the fullest pad. */
+    private static void deepestText() {
+        LoanTerms x = new LoanTerms();
+        due("the deepest text", read(x, "b=1|b=0&!!!(".repeat(5) + "b=1|b=0&!!!a=1" + ")".repeat(5)), 0);
+        String deepest = "(b=1|(b=0&!!!".repeat(6) + "a=1" + "))".repeat(6) + ";";
+        due("is written", written(x, 0), deepest);
+        x.loan(0, 0, 0, 9);
+        x.input(1, 0, 0);
+        due("open at the bottom", x.open(0, 0, 0), 0);
+        x.input(0, 1, 1);
+        due("six turns are none", x.ask(0, 1), 0);
+        x.input(0, 2, 0);
+        due("broken at the bottom", x.ask(0, 2), 1);
     }
 
     private static void promise4Terms() {
