@@ -1,16 +1,5 @@
-import java.util.function.ToLongFunction;
-
 /** One method for each promise of the document: ordinary inputs, the edges, and wrong inputs. */
-public final class PromisesTest {
-    private static final Class<? extends Exception> INDEX = IndexOutOfBoundsException.class;
-    private static final Class<? extends Exception> STATE = IllegalStateException.class;
-    private static final Class<? extends Exception> ARGUMENT = IllegalArgumentException.class;
-    private static final int LOW = Integer.MIN_VALUE;
-    private static final int HIGH = Integer.MAX_VALUE;
-
-    private static int checks = 0;
-    private static int wrong = 0;
-
+public final class PromisesTest extends Checks {
     public static void main(String[] args) {
         promise1NewObject();
         promise2Unit();
@@ -40,8 +29,7 @@ public final class PromisesTest {
         promise18Letter();
         promise19Count();
         faceIsExact();
-        System.out.println(checks + " checks, " + wrong + " wrong");
-        if (wrong != 0) System.exit(1);
+        endWithCount();
     }
 
     private static void promise1NewObject() {
@@ -591,78 +579,10 @@ public final class PromisesTest {
         due("constructors", LoanTerms.class.getDeclaredConstructors().length, 1);
     }
 
-    private static void put(LoanTerms x, String text) {
-        for (int i = 0; i < text.length(); i++) x.unit(text.charAt(i));
-    }
-
-    private static int read(LoanTerms x, String text) {
-        put(x, text);
-        return x.read();
-    }
-
     private static LoanTerms twoLoans(String text) {
-        LoanTerms x = new LoanTerms();
-        read(x, text);
+        LoanTerms x = having(text);
         x.loan(0, 0, 0, 9);
         x.loan(0, 1, 0, 9);
         return x;
-    }
-
-    private static String written(LoanTerms x, int contract) {
-        StringBuilder text = new StringBuilder();
-        int size = x.written(contract, -1);
-        for (int i = 0; i < size; i++) text.append((char) x.written(contract, i));
-        refuse("behind the end of " + text, INDEX, x, o -> o.written(contract, size));
-        return text.toString();
-    }
-
-    private static String letter(LoanTerms x, int loan) {
-        StringBuilder text = new StringBuilder();
-        int size = x.letter(loan, -1);
-        for (int i = 0; i < size; i++) text.append((char) x.letter(loan, i));
-        refuse("behind the end of " + text, INDEX, x, o -> o.letter(loan, size));
-        return text.toString();
-    }
-
-    private static String told(LoanTerms x, int loan) {
-        StringBuilder text = new StringBuilder();
-        int size = x.told(loan, -1, 0);
-        for (int k = 0; k < size; k++) text.append(x.told(loan, k, 0)).append('.').append(x.told(loan, k, 1)).append(' ');
-        return text.toString();
-    }
-
-    private static String clashes(LoanTerms x) {
-        StringBuilder text = new StringBuilder();
-        for (int k = 0; x.clash(k, 0) != LoanTerms.NONE; k++) {
-            text.append(x.clash(k, 0)).append('-').append(x.clash(k, 1)).append(' ');
-        }
-        return text.toString();
-    }
-
-    private static long truth(boolean b) {
-        return b ? 1 : 0;
-    }
-
-    private static void due(String what, long got, long want) {
-        due(what, Long.toString(got), Long.toString(want));
-    }
-
-    private static void due(String what, String got, String want) {
-        checks++;
-        if (!got.equals(want)) {
-            wrong++;
-            System.out.println(what + ": answered " + got + ", due is " + want);
-        }
-    }
-
-    /** The call throws just that class; that it changes nothing, ModelTest sees in the calls behind it. */
-    private static void refuse(String what, Class<? extends Exception> due, LoanTerms x, ToLongFunction<LoanTerms> call) {
-        String got;
-        try {
-            got = Long.toString(call.applyAsLong(x));
-        } catch (RuntimeException e) {
-            got = e.getClass().getName();
-        }
-        due(what, got, due.getName());
     }
 }
