@@ -28,7 +28,6 @@ public final class PromisesTest extends Checks {
         promise17Fee();
         promise18Letter();
         promise19Count();
-        faceIsExact();
         endWithCount();
     }
 
@@ -566,17 +565,6 @@ public final class PromisesTest extends Checks {
         int[] due = {5, 2, 3, 4, 9};
         for (int what = 0; what < due.length; what++) due("count(" + what + ")", x.count(what), due[what]);
         for (int what : new int[] {-1, 5, LOW, HIGH}) refuse("count(" + what + ")", INDEX, x, o -> o.count(what));
-    }
-
-    private static void faceIsExact() {
-        int methods = 0;
-        for (java.lang.reflect.Method m : LoanTerms.class.getDeclaredMethods()) {
-            boolean hidden = java.lang.reflect.Modifier.isPrivate(m.getModifiers());
-            if (!hidden) methods++;
-        }
-        due("methods that are not private", methods, 18);
-        due("public fields", LoanTerms.class.getFields().length, 1);
-        due("constructors", LoanTerms.class.getDeclaredConstructors().length, 1);
     }
 
     private static LoanTerms twoLoans(String text) {
